@@ -21,7 +21,7 @@ public final class AbroadRouter {
     private static final int MOST_BALANCE = 999_999_999;
     private static final int MOST_FEE = 99_999;
     private static final int MOST_GO = 20_160;
-    private static final int NEVER = Integer.MAX_VALUE;
+    private static final int NEVER = 2_147_483_647;
 
     private static final int BOOKED = 0;
     private static final int PAID = 1;
@@ -61,7 +61,7 @@ public final class AbroadRouter {
     public int place(int offset, int off, int opens, int shuts) throws IllegalArgumentException {
         mustFit(within(offset, -720, 840) && within(off, 0, 126));
         mustFit(within(opens, 0, LAST_HOUR - 1) && within(shuts, opens + 1, LAST_HOUR));
-        return net.addPlace(new Place(offset, off, opens, shuts));
+        return net.addPlace(offset, off, opens, shuts);
     }
 
     public int holiday(int place, int day) throws NoSuchElementException, IllegalArgumentException {
@@ -960,8 +960,8 @@ public final class AbroadRouter {
         int leaveBy(int least, int by, int amount) {
             int firstDay = amount > limit ? NEVER : far.dayAt(least);
             for (int day = far.dayAt(by); day >= firstDay; day--) {
-                int readyAt = far.minuteOf(far.workdayBehind(day, lag), ready);
-                if (far.worksOn(day) && usedOn(day) + amount <= daily && readyAt <= by) {
+                if (far.worksOn(day) && usedOn(day) + amount <= daily
+                        && far.minuteOf(far.workdayBehind(day, lag), ready) <= by) {
                     int start = Math.max(least, far.minuteOf(day, far.opens));
                     int end = Math.min(by, far.minuteOf(day, Math.min(cut, far.shuts)));
                     int found = start > end ? NONE : near.lastOpen(start, end);
@@ -1137,11 +1137,11 @@ public final class AbroadRouter {
         int accountCount;
         int now;
 
-        int addPlace(Place place) {
+        int addPlace(int offset, int off, int opens, int shuts) {
             if (placeCount >= MOST_PLACES) {
                 return NONE;
             }
-            places[placeCount] = place;
+            places[placeCount] = new Place(offset, off, opens, shuts);
             placeCount++;
             return placeCount - 1;
         }
