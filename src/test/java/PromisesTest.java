@@ -849,6 +849,19 @@ public final class PromisesTest {
         due(() -> x.reroute(0), 4 * 1440 - 300);
         due(() -> x.payment(0, 3), 3);
         due(() -> x.payment(0, 6), 300);
+        AbroadRouter y = flat(5);
+        way(y, 0, 1, 0, 0, 0);
+        way(y, 1, 2, 0, 300, 0);
+        way(y, 2, 4, 4, 0, 0);
+        booked(y, 0, 4, 100, 0);
+        y.go(1);
+        due(() -> y.payment(0, 4), 2);
+        way(y, 2, 1, 0, 0, 0);
+        way(y, 1, 4, 0, 0, 0);
+        due(() -> y.reroute(0), 0);
+        way(y, 2, 3, 0, 0, 0);
+        way(y, 3, 4, 0, 0, 0);
+        due(() -> y.reroute(0), 4 * 1440 - 300);
     }
     /** 5 HOPS at most in all. */
     private static void p17hops() {
@@ -1175,6 +1188,8 @@ public final class PromisesTest {
         due(() -> y.hours(2, 3), 1439);
         due(() -> y.account(0, 2, 0, 0, 0), 3);
         due(() -> y.hours(3, 3), 1);
+        due(() -> y.leaves(3, 0, 1), 840);
+        due(() -> y.leaves(3, 841, 1), 840 + 1440);
         y.holiday(0, 3);
         due(() -> y.hours(1, 2), 240);
         due(() -> y.hours(1, 3), 1200);
@@ -1527,6 +1542,15 @@ public final class PromisesTest {
         due(() -> x.latest(100), 100);
         x.shut(2, true);
         due(() -> x.latest(100), NONE);
+        AbroadRouter z = flat(7);
+        for (int i = 6; i > 0; i--) way(z, i - 1, i, 0, 0, 1);
+        z.ask(0, 5, 1, 0);
+        due(() -> z.latest(100), 100);
+        due(() -> z.fewest(100), 5);
+        z.ask(0, 6, 1, 0);
+        due(() -> z.latest(100), NONE);
+        due(() -> z.fewest(100), NONE);
+        due(() -> z.soonest(6), NONE);
         int hall = way(x, 1, 4, 1, 0, 0);
         due(() -> x.latest(1440), 1439);
         x.draw(hall, 100_000);
