@@ -935,7 +935,10 @@ public final class AbroadRouter {
          */
         int firstBoth(int minute, int lastHour, int amount) {
             int close = Math.min(lastHour, far.shuts);
-            int lastDay = close < far.opens ? NONE - 1 : far.dayAt(LAST);
+            if (close < far.opens) {
+                return NONE;
+            }
+            int lastDay = far.dayAt(LAST);
             for (int day = far.dayAt(minute); day <= lastDay; day++) {
                 if (far.worksOn(day) && (amount == NONE || usedOn(day) + amount <= daily)) {
                     int start = Math.max(minute, far.minuteOf(day, far.opens));
