@@ -1,64 +1,5 @@
-import java.util.NoSuchElementException;
-
 /** Each promise by hand: ordinary inputs, the edges that the document names, wrong inputs. */
-public final class PromisesTest {
-    private static final int NONE = -1;
-    private static final int LAST = 575_999;
-    private static final int LEAST_INT = Integer.MIN_VALUE;
-    private static final int MOST_INT = Integer.MAX_VALUE;
-
-    private interface Call { long answer(); }
-
-    private static int checks;
-    private static int wrongs;
-    private static int promise;
-
-    private static void due(Call call, long want) {
-        checks++;
-        try {
-            long got = call.answer();
-            if (got != want) say("answered " + got + ", due is " + want);
-        } catch (RuntimeException e) {
-            say("threw " + e + ", due is " + want);
-        }
-    }
-    private static void missing(Call call) { throwing(call, NoSuchElementException.class); }
-    private static void wrong(Call call) { throwing(call, IllegalArgumentException.class); }
-    private static void throwing(Call call, Class<?> want) {
-        checks++;
-        try {
-            say("answered " + call.answer() + ", due is " + want.getSimpleName());
-        } catch (RuntimeException e) {
-            if (e.getClass() != want) say("threw " + e + ", due is " + want.getSimpleName());
-        }
-    }
-    private static void say(String text) {
-        wrongs++;
-        StackTraceElement[] stack = new Throwable().getStackTrace();
-        int line = 0;
-        for (StackTraceElement frame : stack) {
-            if (frame.getMethodName().matches("p\\d+.*")) { line = frame.getLineNumber(); break; }
-        }
-        System.out.println("promise " + promise + ", line " + line + ": " + text);
-    }
-    private static long bit(boolean is) { return is ? 1 : 0; }
-
-    // ---- worlds ----
-
-    /** One PLACE, always OPEN, by the world's clock; so many BANKS there. */
-    private static AbroadRouter flat(int banks) {
-        AbroadRouter x = new AbroadRouter();
-        x.place(0, 0, 0, 1439);
-        for (int i = 0; i < banks; i++) x.bank(0);
-        return x;
-    }
-    /** An ACCOUNT with a BALANCE and a fixed FEE; of a flat world its money is there a LAG of days later, at READY. */
-    private static int way(AbroadRouter x, int from, int to, int lag, int ready, int fix) {
-        int account = x.account(from, to, 1439, lag, ready);
-        x.fund(account, 100_000);
-        x.terms(account, fix, 0, 0, 99_999);
-        return account;
-    }
+public final class PromisesTest extends Checks {
     /** Three PLACES of 5 days a week; 0 to 1 to 2, 0 to 2 and 0 to 3 (without money). */
     private static AbroadRouter world() {
         AbroadRouter x = new AbroadRouter();
@@ -78,17 +19,9 @@ public final class PromisesTest {
         for (int i = 0; i < 3; i++) x.fund(i, 50_000);
         return x;
     }
-    /** Up to a MINUTE, however far. */
-    private static void goTo(AbroadRouter x, int minute) {
-        while (x.told(0) < minute) x.go(Math.min(20_160, minute - x.told(0)));
-    }
-    private static int booked(AbroadRouter x, int from, int to, int amount, int minute) {
-        x.ask(from, to, amount, minute);
-        return x.pay(0);
-    }
-
     public static void main(String[] args) throws ReflectiveOperationException {
-        for (promise = 1; promise <= 55; promise++) {
+        for (int promise = 1; promise <= 55; promise++) {
+            about = "promise " + promise;
             PromisesTest.class.getDeclaredMethod("p" + promise).invoke(null);
         }
         System.out.println(checks + " checks of 55 promises, " + wrongs + " not as due");
