@@ -991,6 +991,32 @@ public final class BoundariesTest extends Checks {
         due(() -> new AbroadRouter().told(1), 0);
     }
 
+    @Says(promise = 1, words = "PAYMENTS.")
+    static void worldWithoutPayment() {
+        AbroadRouter x = row(2);
+        missing(() -> x.payment(0, 0));
+        missing(() -> x.leg(0, 0, 0));
+        missing(() -> x.refuse(0));
+        missing(() -> x.reroute(0));
+        missing(() -> x.late(0));
+        missing(() -> x.shared(0, 0));
+        missing(() -> x.tiedUp(0));
+        for (int what = 4; what <= 8; what++) { int w = what; due(() -> x.told(w), 0); }
+        due(() -> x.told(9), NONE);
+        due(() -> x.tied(0), 0);
+        due(() -> x.used(0, 0), 0);
+        due(() -> x.busiest(0, 0), NONE);
+        due(() -> x.until(LAST), 0);
+        due(() -> x.due(1, 0), 0);
+        due(() -> x.forecast(0, LAST), 100_000);
+        due(() -> x.lowest(0, 0), 100_000);
+        due(() -> x.lowest(0, 1), 0);
+        due(() -> x.limits(0, 1, 1), 0);
+        due(() -> x.holiday(0, 1), 1);
+        due(() -> x.go(20_160), 0);
+        due(() -> x.lowest(0, 1), 20_160);
+    }
+
     @Says(promise = 2, words = "its number; NONE: there are 6")
     static void sixPlaces() {
         AbroadRouter x = new AbroadRouter();
@@ -1302,6 +1328,29 @@ public final class BoundariesTest extends Checks {
         x.go(100);
         due(() -> x.ask(0, 1, 1, 0), 1);
         due(() -> x.route(0, 0), 0);
+    }
+
+    @Says(promise = 12, words = "how many ROUTES there are")
+    static void askWithoutRoute() {
+        AbroadRouter x = row(2);
+        due(() -> x.ask(1, 0, 10, 0), 0);
+        missing(() -> x.route(0, 0));
+        missing(() -> x.step(0, 0, 0));
+        missing(() -> x.pay(0));
+        due(() -> x.cheapest(LAST), NONE);
+        due(() -> x.latest(LAST), NONE);
+        due(() -> x.most(LAST), 0);
+        due(() -> x.bars(0), 0);
+        due(() -> x.soonest(0), NONE);
+        due(() -> x.soonest(1), NONE);
+        due(() -> x.fewest(LAST), NONE);
+        due(() -> x.delay(0), NONE);
+        due(() -> x.needs(0, LAST), NONE);
+        due(() -> x.without(0), 0);
+        due(() -> x.vital(), 0);
+        due(() -> x.told(4), 0);
+        due(() -> x.status(0), 3);
+        due(() -> x.status(1), 0);
     }
 
     @Says(promise = 13, words = "Of ROUTE k of the ASK")
@@ -2583,6 +2632,20 @@ public final class BoundariesTest extends Checks {
         due(() -> x.without(1), 1);
         due(() -> x.pay(0), 0);
         due(() -> x.leg(0, 0, 0), 0);
+        withoutOneBehindReroute();
+    }
+    /** The BANKS that a PAYMENT does not go to again are open to the ASK. */
+    private static void withoutOneBehindReroute() {
+        AbroadRouter x = flat(3);
+        way(x, 0, 1, 0, 100, 0);
+        way(x, 1, 2, 1, 0, 0);
+        booked(x, 0, 2, 10, 0);
+        x.go(1);
+        way(x, 0, 2, 5, 0, 9);
+        due(() -> x.ask(0, 2, 10, 5), 1);
+        due(() -> x.reroute(0), 0);
+        due(() -> x.without(2), 1);
+        due(() -> x.route(0, 2), 2);
     }
 
     @Says(promise = 54, words = "ACCOUNTS (bits) without each of which, all else as it is, there would be no ROUTE for the ASK; 0, if there is none anyway.")

@@ -28,7 +28,7 @@ public final class RandomRunsTest {
 
     private RandomRunsTest(long seed) {
         random = new Random(seed);
-        kind = (int) (seed % 6);
+        kind = (int) (seed % 8);
     }
 
     private static Map<String, Method> methods(Class<?> type) {
@@ -43,7 +43,7 @@ public final class RandomRunsTest {
     }
 
     public static void main(String[] args) {
-        int runs = args.length > 0 ? Integer.parseInt(args[0]) : 60;
+        int runs = args.length > 0 ? Integer.parseInt(args[0]) : 48;
         long seed = args.length > 1 ? Long.parseLong(args[1]) : 1;
         int wrong = 0;
         for (int i = 0; i < runs; i++) {
@@ -118,12 +118,32 @@ public final class RandomRunsTest {
     }
     private int minute() {
         if (rarely()) return one(-1, 0, LAST, LAST + 1, Integer.MAX_VALUE, Integer.MIN_VALUE);
+        if (isEdgy() && random.nextInt(4) != 0) return edge();
         int pick = random.nextInt(10);
         int start = kind == 4 ? Math.max(plain.now, LAST - 20_000) : plain.now;
         if (pick == 0) return upTo(LAST);
         if (pick == 1) return from(LAST - 8_000, LAST);
         if (pick == 2) return Math.max(0, plain.now - upTo(1_500));
         return Math.min(LAST, start + upTo(pick < 6 ? 2_000 : 15_000));
+    }
+    /** Kinds of runs that look for the edges of days, hours, limits and of what is there. */
+    private boolean isEdgy() { return kind >= 6 && !plain.accounts.isEmpty(); }
+    /** A MINUTE at which something begins or ends at the PLACE of an ACCOUNT, or one beside it. */
+    private int edge() {
+        PlainRouter.Account by = plain.accounts.get(random.nextInt(plain.accounts.size()));
+        PlainRouter.Place at = plain.places.get(plain.banks.get(random.nextInt(3) == 0 ? by.from : by.to));
+        int hour = one(0, 1_440, at.opens, at.shuts, by.cut, by.ready) + from(-1, 1);
+        int day = Math.floorDiv(plain.now + at.offset, 1_440) + one(-1, 0, 0, 1, 1, 2, 5);
+        if (plain.now > 380 * 1_440 && random.nextBoolean()) day = from(398, 400);
+        return Math.max(0, Math.min(LAST, day * 1_440 + hour - at.offset));
+    }
+    /** An amount that is just enough, or just too much, for an ACCOUNT. */
+    private int edgeAmount() {
+        PlainRouter.Account by = plain.accounts.get(random.nextInt(plain.accounts.size()));
+        int free = (Integer) answer(PLAIN.get("accountOf"), plain, new Object[] {by.number, 4});
+        int used = (Integer) answer(PLAIN.get("busiest"), plain, new Object[] {by.number, 1});
+        int most = one(by.limit, by.daily, by.daily - used, free - Math.min(by.most, Math.max(by.least, by.fix)), free);
+        return Math.max(1, Math.min(1_000_000, most + from(-1, 1)));
     }
     private int coming() { return rarely() ? minute() : Math.max(plain.now, minute()); }
     private int deadline() {
@@ -146,6 +166,7 @@ public final class RandomRunsTest {
     }
     private int amount() {
         if (rarely()) return one(0, 1, 1_000_000, 1_000_001, -5);
+        if (isEdgy() && random.nextInt(3) == 0) return edgeAmount();
         return random.nextInt(4) == 0 ? from(1, 200_000) : one(100, 300, 500, 999, 1_000, 5_000);
     }
 
@@ -164,7 +185,7 @@ public final class RandomRunsTest {
         for (int i = 0; i < banks && !failed; i++) call("bank", place());
         int accounts = kind == 1 ? from(18, 24) : kind == 2 ? from(10, 13) : from(5, 12);
         for (int i = 0; i < accounts && !failed; i++) newAccount();
-        for (int i = 0; kind == 5 && i < 27 && !failed; i++) call("go", 20_160);
+        for (int i = 0; (kind == 5 || kind == 7) && i < 27 && !failed; i++) call("go", 20_160);
     }
     private void newPlace() {
         if (random.nextInt(3) != 0) {
