@@ -459,6 +459,17 @@ public final class BoundariesTest extends Checks {
         due(() -> x.soonest(6), NONE);
         due(() -> x.reach(0, 10, 0), 0b0111110);
         due(() -> x.reach(1, 10, 0), 0b1111100);
+        // The same, ACCOUNTS made from the last one on.
+        AbroadRouter y = flat(7);
+        for (int i = 6; i > 0; i--) way(y, i - 1, i, 0, 0, 1);
+        y.ask(0, 5, 10, 0);
+        due(() -> y.latest(100), 100);
+        due(() -> y.fewest(0), 5);
+        y.ask(0, 6, 10, 0);
+        due(() -> y.latest(100), NONE);
+        due(() -> y.fewest(LAST), NONE);
+        due(() -> y.soonest(6), NONE);
+        due(() -> y.cheapest(LAST), NONE);
     }
 
     @Says(promise = 0, words = "no BANK twice")
@@ -554,6 +565,41 @@ public final class BoundariesTest extends Checks {
         int best = way(x, 0, 1, 0, 499, 49);
         due(() -> x.ask(0, 1, 10, 0), 1);
         due(() -> x.step(0, 0, 0), best);
+        unbeatenByCut();
+        manyUnbeaten();
+    }
+    /** The same ACCOUNT, come to sooner and later: today, and cheaper tomorrow. */
+    private static void unbeatenByCut() {
+        AbroadRouter x = flat(3);
+        way(x, 0, 1, 0, 600, 1);
+        way(x, 0, 1, 0, 100, 9);
+        int next = x.account(1, 2, 599, 0, 0);
+        x.fund(next, 1_000);
+        due(() -> x.ask(0, 2, 10, 0), 2);
+        due(() -> x.route(0, 0), 100);
+        due(() -> x.route(0, 1), 9);
+        due(() -> x.route(1, 0), DAY);
+        due(() -> x.route(1, 1), 1);
+        due(() -> x.step(1, 1, 1), DAY);
+        due(() -> x.step(0, 1, 1), 100);
+    }
+    /** As many ROUTES as ACCOUNTS; and 48 ACCOUNTS in two steps. */
+    private static void manyUnbeaten() {
+        AbroadRouter x = flat(2);
+        for (int i = 0; i < 48; i++) way(x, 0, 1, 0, 100 + i, 48 - i);
+        due(() -> x.ask(0, 1, 10, 0), 48);
+        due(() -> x.route(0, 1), 48);
+        due(() -> x.route(47, 1), 1);
+        missing(() -> x.route(48, 0));
+        AbroadRouter y = flat(3);
+        for (int i = 0; i < 48; i++) way(y, i % 2, i % 2 + 1, 0, 10 + i / 2 * 50, 1_000 - i / 2 * 30);
+        due(() -> y.ask(0, 2, 10, 0), 24);
+        for (int i = 0; i < 24; i++) {
+            int k = i;
+            due(() -> y.route(k, 0), 10 + k * 50);
+            due(() -> y.route(k, 1), 2 * (1_000 - k * 30));
+            due(() -> y.step(k, 1, 0), 2 * k + 1);
+        }
     }
 
     @Says(promise = 0, words = "the UNBEATEN pairs, each once, by END, from 0 on; of each the CHAIN of fewest ACCOUNTS, of these the first by the number of its first ACCOUNT, then of the next one, and so on")
@@ -613,7 +659,7 @@ public final class BoundariesTest extends Checks {
         due(() -> x.route(0, 0), 5);
     }
 
-    /** A world with ROUTES of an ASK, PAYMENTS of all kinds, and money just enough. */
+    /** A world with ROUTES of an ASK, and others that there are as soon as money is just enough. */
     private static AbroadRouter asked() {
         AbroadRouter x = flat(4);
         x.place(0, 0, 0, 1439);
@@ -622,13 +668,16 @@ public final class BoundariesTest extends Checks {
         way(x, 0, 3, 1, 0, 1);
         way(x, 0, 2, 0, 300, 4);
         way(x, 2, 3, 0, 500, 4);
-        for (int i = 0; i < 5; i++) x.draw(i, 97_500);
+        way(x, 0, 3, 0, 400, 9);
+        way(x, 0, 3, 1, 100, 0);
+        int[] left = {2_000, 2_500, 2_000, 2_500, 2_500, 2_000, 2_500};
+        for (int i = 0; i < 7; i++) x.draw(i, 100_000 - left[i]);
         booked(x, 0, 1, 500, 0);
         booked(x, 0, 3, 500, 40);
-        x.ask(0, 3, 500, 40);
-        x.pay(2);
+        x.pay(3);
         x.go(10);
         x.refuse(0);
+        // By ACCOUNTS 3 and 4, and by 6: 0 waits for what goes BACK, 2 and 5 are HELD.
         x.ask(0, 3, 1_500, 50);
         return x;
     }
@@ -637,16 +686,17 @@ public final class BoundariesTest extends Checks {
 
     private static final Change[] CHANGES = {
         x -> { }, x -> x.holiday(0, 1), x -> x.account(0, 3, 1439, 0, 70), x -> x.terms(3, 0, 0, 0, 0),
-        x -> x.limits(4, 1_499, 9_999_999), x -> x.limits(1, 1_000_000, 1_400), x -> x.fund(0, 1_000),
-        x -> x.draw(4, 900), x -> x.shut(3, true), x -> x.go(300), x -> x.pay(0), x -> x.pay(1),
+        x -> x.limits(4, 1_499, 9_999_999), x -> x.limits(3, 1_000_000, 1_400), x -> x.fund(0, 1_000),
+        x -> x.draw(4, 1_000), x -> x.shut(3, true), x -> x.go(300), x -> x.pay(0), x -> x.pay(1),
         x -> x.refuse(1), x -> x.reroute(2), x -> x.without(4), x -> x.reach(0, 9, 9),
         x -> x.ask(0, 3, 100, 60), x -> x.ask(1, 3, 100, 60),
     };
     private static final Question[] QUESTIONS = {
-        x -> x.route(0, 0), x -> x.route(0, 1), x -> x.step(0, 0, 0), x -> x.step(0, 0, 4), x -> x.cheapest(LAST),
-        x -> x.latest(1_000), x -> x.most(1_000), x -> x.bars(0), x -> x.bars(4), x -> x.soonest(2), x -> x.fewest(700),
-        x -> x.delay(4), x -> x.needs(0, 1_000), x -> x.without(2), x -> x.vital(), x -> x.reach(0, 1_500, 50),
-        x -> x.cheapest(700), x -> x.soonest(3), x -> x.without(4),
+        x -> x.route(0, 0), x -> x.route(0, 1), x -> x.route(1, 0), x -> x.route(1, 1), x -> x.route(2, 0),
+        x -> x.step(0, 0, 0), x -> x.step(0, 0, 4), x -> x.step(1, 0, 0), x -> x.cheapest(LAST), x -> x.cheapest(700),
+        x -> x.latest(550), x -> x.latest(1_600), x -> x.most(1_000), x -> x.most(500), x -> x.bars(0), x -> x.bars(4),
+        x -> x.soonest(2), x -> x.soonest(3), x -> x.fewest(700), x -> x.delay(3), x -> x.needs(0, 1_000),
+        x -> x.needs(5, 450), x -> x.without(2), x -> x.without(4), x -> x.vital(), x -> x.reach(0, 1_500, 50),
     };
     private static String answerOf(Question question, AbroadRouter x) {
         try {
@@ -658,6 +708,10 @@ public final class BoundariesTest extends Checks {
 
     @Says(promise = 0, words = "what is told of it is by all as it is now")
     static void askedByAllAsItIsNow() {
+        AbroadRouter world = asked();
+        due(() -> world.route(0, 0), 500);
+        due(() -> world.route(1, 0), DAY + 100);
+        missing(() -> world.route(2, 0));
         int others = 0;
         for (int c = 0; c < CHANGES.length; c++) {
             int[] ask = c == 16 ? new int[] {0, 100, 60} : c == 17 ? new int[] {1, 100, 60} : new int[] {0, 1_500, 50};
@@ -676,7 +730,7 @@ public final class BoundariesTest extends Checks {
         }
         // The changes do change what is told.
         checks++;
-        if (others < 60) say("only " + others + " answers changed");
+        if (others < 100) say("only " + others + " answers changed");
     }
 
     // ---- Terms: payments ----
@@ -847,6 +901,7 @@ public final class BoundariesTest extends Checks {
         due(() -> x.leg(0, 1, 1), 600);
         due(() -> x.leg(1, 0, 1), 1_000);
         due(() -> x.leg(1, 1, 1), 1_000);
+        laidAnewOneByOne();
         // From NOW on: a PAYMENT that waited for room does not go ahead of NOW.
         AbroadRouter y = flat(2);
         y.place(0, 0, 0, 1439);
@@ -860,6 +915,29 @@ public final class BoundariesTest extends Checks {
         due(() -> y.holiday(1, 50), 1);
         due(() -> y.leg(1, 0, 1), 300);
         due(() -> y.late(1), 300 - DAY);
+    }
+
+    /** A HOP that ARRIVES later is followed by one that LEAVES later. */
+    private static void laidAnewOneByOne() {
+        AbroadRouter x = new AbroadRouter();
+        x.place(0, 0, 0, 1439);
+        x.place(0, 0, 0, 1439);
+        for (int i = 0; i < 4; i++) x.bank(i == 1 ? 1 : 0);
+        way(x, 0, 1, 1, 10, 0);
+        way(x, 1, 2, 0, 20, 0);
+        way(x, 2, 3, 1, 30, 0);
+        booked(x, 0, 3, 10, 0);
+        due(() -> x.payment(0, 6), 2 * DAY + 30);
+        due(() -> x.holiday(1, 1), 1);
+        due(() -> x.leg(0, 0, 1), 0);
+        due(() -> x.leg(0, 0, 2), 2 * DAY + 10);
+        due(() -> x.leg(0, 1, 1), 2 * DAY + 10);
+        due(() -> x.leg(0, 1, 2), 2 * DAY + 20);
+        due(() -> x.leg(0, 2, 1), 2 * DAY + 20);
+        due(() -> x.payment(0, 6), 3 * DAY + 30);
+        due(() -> x.used(1, 1), 0);
+        due(() -> x.used(1, 2), 10);
+        due(() -> x.used(2, 2), 10);
     }
 
     @Says(promise = 0, words = "(what was USED by it is not; nothing else is asked, not whether an ACCOUNT is SHUT)")
@@ -968,6 +1046,60 @@ public final class BoundariesTest extends Checks {
         goTo(x, DAY + 1);
         due(() -> x.holiday(1, 2), 1);
         due(() -> x.leg(0, 0, 4), 3 * DAY + 100);
+        foundAnewPartly();
+    }
+    /** One HOP is BACK, the other one is not. */
+    private static void foundAnewPartly() {
+        AbroadRouter x = new AbroadRouter();
+        x.place(0, 0, 0, 700);
+        x.place(0, 0, 600, 1439);
+        for (int i = 0; i < 4; i++) x.bank(Math.min(1, i));
+        way(x, 2, 3, 0, 1_410, 4);
+        way(x, 1, 2, 0, 1_400, 2);
+        way(x, 0, 1, 0, 0, 1);
+        booked(x, 0, 2, 100, 0);
+        x.go(600);
+        due(() -> x.refuse(0), 1);
+        due(() -> x.until(1_399), 0);
+        due(() -> x.until(1_400), 1);
+        due(() -> x.until(DAY + 600), 2);
+        x.go(900);
+        due(() -> x.leg(0, 1, 5), 1);
+        due(() -> x.leg(0, 0, 5), 0);
+        due(() -> x.accountOf(1, 2), 99_998);
+        due(() -> x.accountOf(2, 2), 99_899);
+        due(() -> x.forecast(1, LAST), 99_998);
+        due(() -> x.forecast(2, DAY + 599), 99_899);
+        due(() -> x.forecast(2, DAY + 600), 99_999);
+        due(() -> x.until(DAY + 599), 0);
+        due(() -> x.until(LAST), 1);
+        // DAY 1 has begun: of DAY 2 on, it finds the same; what is BACK stays.
+        due(() -> x.holiday(1, 2), 1);
+        due(() -> x.leg(0, 1, 4), 1_400);
+        due(() -> x.leg(0, 0, 4), DAY + 600);
+        due(() -> x.payment(0, 8), DAY + 600);
+        due(() -> x.go(540), 1);
+        due(() -> x.payment(0, 0), 3);
+        due(() -> x.accountOf(2, 2), 99_999);
+        due(() -> x.accountOf(1, 2), 99_998);
+        foundAnewBehindOneBack();
+    }
+    private static void foundAnewBehindOneBack() {
+        AbroadRouter x = new AbroadRouter();
+        x.place(0, 0, 0, 700);
+        x.place(0, 0, 600, 1439);
+        for (int i = 0; i < 3; i++) x.bank(Math.min(1, i));
+        way(x, 0, 1, 0, 0, 1);
+        way(x, 1, 2, 0, 1_400, 2);
+        booked(x, 0, 2, 100, 0);
+        x.go(600);
+        x.refuse(0);
+        x.go(810);
+        due(() -> x.payment(0, 5), 1);
+        due(() -> x.leg(0, 0, 4), DAY + 600);
+        due(() -> x.holiday(1, 1), 1);
+        due(() -> x.leg(0, 1, 4), 1_400);
+        due(() -> x.leg(0, 0, 4), 2 * DAY + 600);
     }
 
     // ---- promises 1 to 11: what makes and changes ----
@@ -1243,8 +1375,10 @@ public final class BoundariesTest extends Checks {
         AbroadRouter x = row(2);
         due(() -> bit(x.shut(0, false)), 0);
         due(() -> bit(x.shut(0, true)), 0);
+        due(() -> x.accountOf(0, 5), 1);
         due(() -> bit(x.shut(0, true)), 1);
         due(() -> bit(x.shut(0, false)), 1);
+        due(() -> x.accountOf(0, 5), 0);
         due(() -> bit(x.shut(0, false)), 0);
         // What is BOOKED goes.
         booked(x, 0, 1, 10, 5);
@@ -1731,6 +1865,10 @@ public final class BoundariesTest extends Checks {
         due(() -> x.payment(0, 4), 0);
         due(() -> x.payment(1, 2), 16);
         due(() -> x.payment(1, 3), 1);
+        way(x, 5, 0, 0, 0, 0);
+        due(() -> x.tied(5), 0);
+        due(() -> x.tied(4), 3);
+        due(() -> x.shared(0, 0), 31);
         x.go(1);
         due(() -> x.payment(0, 4), 5);
         due(() -> x.payment(0, 5), 0);
@@ -2142,6 +2280,22 @@ public final class BoundariesTest extends Checks {
         x.go(470);
         due(() -> x.line(0, 1, 3), 100);
         due(() -> x.line(0, 0, 3), 600);
+        lowestTwice();
+    }
+    /** As low twice: the first of both, whatever was BOOKED first. */
+    private static void lowestTwice() {
+        AbroadRouter x = flat(2);
+        x.account(0, 1, 1439, 0, 500);
+        x.fund(0, 1_000);
+        booked(x, 0, 1, 100, 900);
+        booked(x, 0, 1, 100, 20);
+        booked(x, 0, 1, 50, 300);
+        booked(x, 0, 1, 50, 310);
+        x.go(30);
+        x.refuse(1);
+        // 900; at 300 850, at 310 800, at 500 900, at 900 800.
+        due(() -> x.lowest(0, 0), 800);
+        due(() -> x.lowest(0, 1), 310);
     }
 
     @Says(promise = 35, words = "is later than it was when it was BOOKED (below 0: sooner)")
@@ -2265,6 +2419,56 @@ public final class BoundariesTest extends Checks {
         x.ask(2, 0, 10, 0);
         due(() -> x.latest(LAST), NONE);
         latestOnDayBelowZero();
+        latestByHours();
+        latestByRoom();
+    }
+    /** Up to CUT, and while both are OPEN. */
+    private static void latestByHours() {
+        AbroadRouter x = new AbroadRouter();
+        x.place(0, 0, 0, 200);
+        x.place(0, 0, 0, 1439);
+        for (int i = 0; i < 3; i++) x.bank(Math.min(1, i));
+        way(x, 0, 1, 0, 0, 0);
+        x.ask(0, 1, 10, 200);
+        due(() -> x.latest(400), 200);
+        x.ask(0, 1, 10, 201);
+        due(() -> x.latest(DAY - 1), NONE);
+        due(() -> x.latest(DAY), DAY);
+        int cut = x.account(1, 2, 500, 0, 0);
+        x.fund(cut, 1_000);
+        x.ask(1, 2, 10, 100);
+        due(() -> x.latest(499), 499);
+        due(() -> x.latest(501), 500);
+        due(() -> x.latest(DAY - 1), 500);
+        x.ask(1, 2, 10, 501);
+        due(() -> x.latest(DAY - 1), NONE);
+    }
+    /** Up to LIMIT and DAILY, just enough and just not. */
+    private static void latestByRoom() {
+        AbroadRouter x = row(2);
+        x.ask(0, 1, 10, 5);
+        x.limits(0, 10, 9_999_999);
+        due(() -> x.latest(100), 100);
+        x.limits(0, 9, 9_999_999);
+        due(() -> x.latest(LAST), NONE);
+        x.limits(0, 10, 15);
+        due(() -> x.pay(0), 0);
+        due(() -> x.latest(DAY - 1), NONE);
+        due(() -> x.latest(DAY), DAY);
+        x.limits(0, 10, 20);
+        due(() -> x.latest(DAY - 1), DAY - 1);
+        x.limits(0, 10, 9);
+        due(() -> x.latest(LAST), NONE);
+        x.limits(0, 10, 9_999_999);
+        due(() -> x.latest(LAST), LAST);
+        x.shut(0, true);
+        due(() -> x.latest(LAST), NONE);
+        x.shut(0, false);
+        // FREE is 99,989: with FEE the ASK takes 11 of it.
+        x.draw(0, 99_978);
+        due(() -> x.latest(LAST), LAST);
+        x.draw(0, 1);
+        due(() -> x.latest(LAST), NONE);
     }
     private static void latestOnDayBelowZero() {
         AbroadRouter x = new AbroadRouter();
@@ -2292,6 +2496,8 @@ public final class BoundariesTest extends Checks {
         x.fund(0, 1);
         due(() -> x.most(99), 0);
         due(() -> x.most(100), 1);
+        due(() -> x.most(101), 1);
+        due(() -> x.most(LAST), 1);
         x.fund(0, 999_998);
         due(() -> x.most(100), 999_999);
         x.fund(0, 1);
@@ -2550,9 +2756,9 @@ public final class BoundariesTest extends Checks {
         way(x, 0, 1, 0, 0, 0);
         way(x, 0, 2, 0, 0, 0);
         due(() -> x.due(1, 0), 0);
-        // DAY -1, DAY 0, DAY 399 there; and DAY 400.
-        booked(x, 0, 1, 1, 719);
+        // DAY 0, DAY -1, DAY 399 there; and DAY 400.
         booked(x, 0, 1, 2, 720);
+        booked(x, 0, 1, 1, 719);
         booked(x, 0, 1, 4, LAST);
         booked(x, 0, 2, 8, LAST - 840);
         booked(x, 0, 2, 16, LAST - 839);
@@ -2563,7 +2769,7 @@ public final class BoundariesTest extends Checks {
         due(() -> x.due(0, 0), 0);
         booked(x, 0, 1, 32, 720);
         due(() -> x.due(1, 0), 34);
-        x.refuse(1);
+        x.refuse(0);
         due(() -> x.due(1, 0), 32);
         x.go(719);
         due(() -> x.due(1, 0), 32);
@@ -2588,6 +2794,8 @@ public final class BoundariesTest extends Checks {
         x.fund(0, 1);
         due(() -> x.needs(0, 100), 0);
         due(() -> x.needs(1, 100), 0);
+        due(() -> x.needs(0, 101), 0);
+        due(() -> x.needs(1, LAST), 0);
         due(() -> x.needs(0, 99), NONE);
         due(() -> x.needs(1, 99), NONE);
         // What is HELD does not help.

