@@ -1546,7 +1546,8 @@ public final class AbroadRouter {
      * The UNBEATEN CHAINS of a quest. Beginnings of CHAINS (labels) are made by their number of ACCOUNTS,
      * of one number in the order of ACCOUNTS. One is dropped if an earlier one came to the same BANK
      * not later and not dearer: what goes on from it would be beaten, or would come behind the
-     * other one among alike pairs.
+     * other one among alike pairs. One does not go on either if a later one of no more ACCOUNTS came there
+     * not later and cheaper; but if that one is only sooner, both may come to the same END.
      */
     private static final class Chains {
         private static final int FIRST_ROOM = 64;
@@ -1584,14 +1585,32 @@ public final class AbroadRouter {
             for (int hops = 0; hops < quest.hops; hops++) {
                 int end = count;
                 for (int label = begin; label < end; label++) {
-                    extend(label);
+                    if (!isUndercut(label, end)) {
+                        extend(label);
+                    }
                 }
                 begin = end;
             }
         }
 
+        private int bankOfLabel(int label) {
+            return label == 0 ? quest.from : net.accounts[by[label]].to;
+        }
+
+        /** Whether another label below an end came to the same BANK not later, and cheaper. */
+        private boolean isUndercut(int label, int end) {
+            int other = front[bankOfLabel(label)];
+            for (int i = 0; i < count && other != NONE && time[other] <= time[label]; i++) {
+                if (other < end && fees[other] < fees[label]) {
+                    return true;
+                }
+                other = behind[other];
+            }
+            return false;
+        }
+
         private void extend(int label) {
-            int bank = label == 0 ? quest.from : net.accounts[by[label]].to;
+            int bank = bankOfLabel(label);
             long rest = bank == quest.to ? 0 : quest.usable & net.goFrom[bank];
             for (int i = 0; i < MOST_ACCOUNTS && rest != 0; i++) {
                 int account = Long.numberOfTrailingZeros(rest);

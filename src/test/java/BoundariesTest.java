@@ -470,6 +470,23 @@ public final class BoundariesTest extends Checks {
         due(() -> y.fewest(LAST), NONE);
         due(() -> y.soonest(6), NONE);
         due(() -> y.cheapest(LAST), NONE);
+        fiveAccountsByTheDearerWay();
+    }
+    /** To BANK 2 it is cheaper by one more ACCOUNT, by which it would be one too many in all. */
+    private static void fiveAccountsByTheDearerWay() {
+        AbroadRouter x = flat(7);
+        way(x, 0, 1, 0, 0, 0);
+        way(x, 0, 2, 0, 0, 9);
+        way(x, 1, 2, 0, 0, 0);
+        for (int i = 2; i < 6; i++) way(x, i, i + 1, 0, 0, 1);
+        due(() -> x.ask(0, 6, 10, 0), 1);
+        due(() -> x.route(0, 1), 13);
+        due(() -> x.route(0, 2), 5);
+        due(() -> x.step(0, 0, 0), 1);
+        due(() -> x.ask(0, 5, 10, 0), 1);
+        due(() -> x.route(0, 1), 3);
+        due(() -> x.route(0, 2), 5);
+        due(() -> x.step(0, 0, 0), 0);
     }
 
     @Says(promise = 0, words = "no BANK twice")

@@ -20,6 +20,22 @@ public final class RoomTest {
         return x;
     }
 
+    /** Each CHAIN there is cheaper than all ahead of it: each one could be kept for a while. */
+    private static AbroadRouter falling() {
+        AbroadRouter x = new AbroadRouter();
+        x.place(0, 0, 0, 1_439);
+        for (int i = 0; i < 6; i++) x.bank(0);
+        int[] steps = {9_999, 999, 99, 9, 1};
+        for (int i = 0; i < 48; i++) {
+            int from = i * 5 / 48;
+            x.account(from, from + 1, 1_439, 1, 0);
+            x.fund(i, 9_999_999);
+            int fee = (9 - i % 10) * steps[from];
+            x.terms(i, 0, 0, fee, fee);
+        }
+        return x;
+    }
+
     private static void askDearly(AbroadRouter x) {
         for (int i = 0; i < 39; i++) {
             sum += x.ask(0, 5, 1_000 + i, i * 200);
@@ -32,10 +48,14 @@ public final class RoomTest {
         com.sun.management.ThreadMXBean bean = (com.sun.management.ThreadMXBean) ManagementFactory.getThreadMXBean();
         long id = Thread.currentThread().getId();
         askDearly(dense());
+        askDearly(falling());
         long before = bean.getThreadAllocatedBytes(id);
         askDearly(dense());
-        long taken = bean.getThreadAllocatedBytes(id) - before;
-        System.out.println(taken + " bytes for a full world and 351 dear calls (" + sum + ")");
-        if (taken > MOST_BYTES) System.exit(1);
+        long between = bean.getThreadAllocatedBytes(id);
+        askDearly(falling());
+        long after = bean.getThreadAllocatedBytes(id);
+        long most = Math.max(between - before, after - between);
+        System.out.println(most + " bytes at most for a full world and 351 dear calls (" + sum + ")");
+        if (most > MOST_BYTES) System.exit(1);
     }
 }
