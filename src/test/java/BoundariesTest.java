@@ -28,9 +28,16 @@ public final class BoundariesTest extends Checks {
                 say("threw " + e.getCause());
             }
         }
+        for (int promise = 0; promise <= 55; promise++) haveOne(promise, tests);
         lookUpWords(tests);
         System.out.println(tests.size() + " sentences, " + checks + " checks, " + wrongs + " not as due");
         if (wrongs != 0) System.exit(1);
+    }
+
+    private static void haveOne(int promise, List<Method> tests) {
+        checks++;
+        about = "promise " + promise;
+        if (tests.stream().noneMatch(t -> t.getAnnotation(Says.class).promise() == promise)) say("no sentence of it is tested");
     }
 
     /** The words of each test stand in the document, where they are said to. */
