@@ -28,7 +28,7 @@ public final class RandomRunsTest {
 
     private RandomRunsTest(long seed) {
         random = new Random(seed);
-        kind = (int) (seed % 8);
+        kind = (int) (seed % 12);
     }
 
     private static Map<String, Method> methods(Class<?> type) {
@@ -43,7 +43,7 @@ public final class RandomRunsTest {
     }
 
     public static void main(String[] args) {
-        int runs = args.length > 0 ? Integer.parseInt(args[0]) : 48;
+        int runs = args.length > 0 ? Integer.parseInt(args[0]) : 60;
         long seed = args.length > 1 ? Long.parseLong(args[1]) : 1;
         int wrong = 0;
         for (int i = 0; i < runs; i++) {
@@ -127,7 +127,10 @@ public final class RandomRunsTest {
         return Math.min(LAST, start + upTo(pick < 6 ? 2_000 : 15_000));
     }
     /** Kinds of runs that look for the edges of days, hours, limits and of what is there. */
-    private boolean isEdgy() { return kind >= 6 && !plain.accounts.isEmpty(); }
+    private boolean isEdgy() { return kind >= 6 && kind < 8 && !plain.accounts.isEmpty(); }
+    /** Kinds of runs that look for what befalls PAYMENTS of many HOPS on their way, every second one near LAST. */
+    private boolean isOnTheWay() { return kind >= 8; }
+    private boolean isOnTheWayLate() { return isOnTheWay() && kind % 2 == 1; }
     /** A MINUTE at which something begins or ends at the PLACE of an ACCOUNT, or one beside it. */
     private int edge() {
         PlainRouter.Account by = plain.accounts.get(random.nextInt(plain.accounts.size()));
@@ -171,9 +174,11 @@ public final class RandomRunsTest {
     }
 
     private void run() {
-        world();
+        if (isOnTheWay()) ladder();
+        else world();
         while (!failed && told.size() < CALLS && turns < 5_000) {
-            turn();
+            if (isOnTheWay()) turnOnTheWay();
+            else turn();
         }
         for (int i = -1; i < 3 && !failed; i++) call("status", i);
     }
@@ -218,6 +223,85 @@ public final class RandomRunsTest {
     private void newLimits(int account) {
         call("limits", account, one(1_000_000, 1_000_000, 1_000, 500, 0, number(0, 1_000_000)),
                 one(9_999_999, 1_000, 1_500, 600, number(0, 9_999_999)));
+    }
+
+    /** BANKS in a row, with a soon and a cheap ACCOUNT from each to the next, and some that skip one. */
+    private void ladder() {
+        for (int i = from(2, 3); i > 0; i--) {
+            call("place", one(-300, -60, 0, 60, 200), one(0, 0, 96, 1), one(0, 300, 480), one(1_080, 1_200, 1_439));
+        }
+        int banks = from(5, 7);
+        for (int i = 0; i < banks; i++) call("bank", random.nextInt(plain.places.size()));
+        for (int i = 0; i + 1 < banks; i++) {
+            rung(i, i + 1, upTo(1), one(5, 10, 20));
+            rung(i, i + 1, from(1, 2), one(0, 0, 3));
+            if (i + 2 < banks && random.nextInt(3) == 0) rung(i, i + 2, from(1, 3), one(4, 15));
+        }
+        for (int i = 0; isOnTheWayLate() && i < 27; i++) call("go", 20_160);
+    }
+    private void rung(int from, int to, int lag, int fix) {
+        Object made = call("account", from, to, one(900, 1_200, 1_439), lag, one(0, 400, 600, 1_000));
+        call("fund", made, one(3_000, 400_000, 400_000));
+        call("terms", made, fix, 0, 0, 99_999);
+        if (random.nextInt(3) == 0) call("limits", made, 1_000_000, one(1_000, 1_500, 3_000));
+    }
+    private void turnOnTheWay() {
+        turns++;
+        int pick = random.nextInt(100);
+        if (pick < 14) payLongWay();
+        else if (pick < 34) toNext();
+        else if (pick < 44) holidayOnTheWay();
+        else if (pick < 52) rerouteAll();
+        else if (pick < 56) refuseOnTheWay();
+        else if (pick < 60) call("shut", account(), random.nextInt(3) == 0);
+        else if (pick < 63) change();
+        else if (pick < 66) call("go", one(1, 60, 300, 700));
+        else if (pick < 75) look();
+        else if (pick < 97) lookAtPayments();
+        else lookAtAsk();
+    }
+    private void payLongWay() {
+        int banks = plain.banks.size();
+        int minute = isOnTheWayLate() ? Math.max(plain.now, LAST - from(0, 20_000)) : Math.min(LAST, plain.now + upTo(1_500));
+        call("ask", upTo(1), banks - 1 - upTo(1), one(300, 500, 999, 1_000), minute);
+        int routes = routesNow();
+        if (routes > 0) call("pay", random.nextBoolean() ? routes - 1 : random.nextInt(routes));
+    }
+    private int onTheWay() {
+        int count = plain.payments.size();
+        int first = count == 0 ? 0 : random.nextInt(count);
+        for (int i = 0; i < count; i++) {
+            PlainRouter.Payment some = plain.payments.get((first + i) % count);
+            if (some.state == 0 && some.hops.get(0).left || some.state == 2) return (first + i) % count;
+        }
+        return payment();
+    }
+    private void holidayOnTheWay() {
+        int number = onTheWay();
+        if (number < 0 || number >= plain.payments.size()) return;
+        PlainRouter.Payment some = plain.payments.get(number);
+        PlainRouter.Hop hop = some.hops.get(random.nextInt(some.hops.size()));
+        PlainRouter.Account by = plain.accounts.get(hop.account);
+        int place = plain.banks.get(random.nextInt(3) == 0 ? by.from : by.to);
+        int minute = hop.back >= 0 ? hop.back : random.nextBoolean() ? hop.leaves : hop.arrives;
+        int day = Math.floorDiv(minute + plain.places.get(place).offset, 1_440) + one(0, 0, 0, 1);
+        call("holiday", place, day);
+        lookAt(number);
+    }
+    private void rerouteAll() {
+        for (int i = 0; i < plain.payments.size() && !failed; i++) {
+            if (plain.payments.get(i).state == 0 && random.nextInt(3) != 0) call("reroute", i);
+        }
+    }
+    private void refuseOnTheWay() {
+        int number = onTheWay();
+        call("refuse", number);
+        lookAt(number);
+    }
+    private void lookAt(int payment) {
+        if (payment < 0 || payment >= plain.payments.size()) return;
+        for (int w = 0; w < 9 && !failed; w++) call("payment", payment, w);
+        allLegs(payment);
     }
 
     private void turn() {
